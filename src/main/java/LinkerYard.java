@@ -1425,24 +1425,28 @@ public final class LinkerYard {
         private int raise(int library) {
             int stood = order.rows;
             if (!isLoaded(library)) {
-                putOn(library, 0);
+                putOn(this, library, 0);
             }
             counts.set(library, counts.get(library) + 1);
             return order.rows - stood;
         }
 
-        private void putOn(int library, int depth) {
+        private static void putOn(Libraries all, int library, int depth) {
             if (depth > MOST_LIBRARIES) {
                 return;
             }
-            underway.set(library, 1);
-            for (int other = 0; other < versions.rows; other++) {
-                if (isNeeding(library, other) && !isLoaded(other) && underway.get(other) != 1) {
-                    putOn(other, depth + 1);
+            all.underway.set(library, 1);
+            for (int other = 0; other < all.versions.rows; other++) {
+                if (all.isNeeding(library, other) && !all.isLoaded(other) && all.underway.get(other) != 1) {
+                    putOn(all, other, depth + 1);
                 }
             }
-            underway.set(library, 0);
-            order.set(order.add(), 0, library);
+            all.underway.set(library, 0);
+            all.order.set(all.order.add(), 0, library);
+            all.raiseNeeded(library);
+        }
+
+        private void raiseNeeded(int library) {
             for (int other = 0; other < versions.rows; other++) {
                 if (isNeeding(library, other)) {
                     counts.set(other, counts.get(other) + 1);
@@ -1456,26 +1460,26 @@ public final class LinkerYard {
                 plannedCounts.set(other, counts.get(other));
                 leaving.set(other, 0);
             }
-            return lower(library, 0);
+            return lower(this, library, 0);
         }
 
-        private int lower(int library, int depth) {
-            int left = plannedCounts.get(library);
-            if (depth > MOST_LIBRARIES || left <= 0) {
+        private static int lower(Libraries all, int library, int depth) {
+            int count = all.plannedCounts.get(library);
+            if (depth > MOST_LIBRARIES || count <= 0) {
                 return 0;
             }
-            plannedCounts.set(library, left - 1);
-            if (left > 1) {
+            all.plannedCounts.set(library, count - 1);
+            if (count > 1) {
                 return 0;
             }
-            leaving.set(library, 1);
-            int all = 1;
-            for (int other = versions.rows - 1; other >= 0; other--) {
-                if (isNeeding(library, other)) {
-                    all += lower(other, depth + 1);
+            all.leaving.set(library, 1);
+            int left = 1;
+            for (int other = all.versions.rows - 1; other >= 0; other--) {
+                if (all.isNeeding(library, other)) {
+                    left += lower(all, other, depth + 1);
                 }
             }
-            return all;
+            return left;
         }
 
         private boolean isLeavingBound() {

@@ -18,6 +18,7 @@ public final class LinkTest {
         livingCommons();
         folding();
         notFolded();
+        laterReferences();
         addressTaken();
         foldedTargets();
         Check.end();
@@ -456,7 +457,49 @@ public final class LinkTest {
         Check.due("11: data that are alike", "ll", () -> fates(data, 2));
     }
 
+    /** Twins with up to four references, told as pairs of an offset and a name, or as pairs and an 'a'. */
+    private static LinkerYard callingTwins(String lower, String higher) {
+        LinkerYard yard = twins(8, 4, 7, true);
+        String[] texts = {lower, higher};
+        for (int twin = 0; twin < 2; twin++) {
+            for (String told : texts[twin].split(" ")) {
+                char kind = told.length() > 2 ? 'a' : 'c';
+                yard.refer(1 + twin, told.charAt(0) - '0', told.charAt(1) - '0', kind);
+            }
+        }
+        return yard;
+    }
+
+    /** What makes two sections unlike may stand in any of their references. */
+    private static void laterReferences() {
+        Check.due("11: four references", "-llfl", () -> twinFates(callingTwins("03 24 43 63", "63 43 24 03")));
+        for (int place = 0; place < 4; place++) {
+            String[] names = {"03", "24", "43", "63"};
+            names[place] = names[place].charAt(0) + (place == 1 ? "3" : "4");
+            String otherName = String.join(" ", names);
+            names[place] = "03 24 43 63".substring(3 * place, 3 * place + 2) + "a";
+            String otherKind = String.join(" ", names);
+            names[place] = (char) ('1' + 2 * place) + "03 24 43 63".substring(3 * place + 1, 3 * place + 2);
+            String otherOffset = String.join(" ", names);
+            String fewer = "03 24 43 63 ".substring(0, 3 * place) + "03 24 43 63 ".substring(3 * place + 3);
+            for (String other : new String[] {otherName, otherKind, otherOffset, fewer.trim()}) {
+                Check.due("11: four references and " + other, "-llll",
+                        () -> twinFates(callingTwins("03 24 43 63", other)));
+                Check.due("11: " + other + " and four references", "-llll",
+                        () -> twinFates(callingTwins(other, "03 24 43 63")));
+            }
+        }
+    }
+
     private static void addressTaken() {
+        LinkerYard first = objects("p");
+        first.addSection(0, true, 4, 1, 1, true);
+        first.addSection(0, true, 4, 1, 1, true);
+        first.addSection(0, false, 4, 1, 1, true);
+        first.define(1, 0, 2, 's');
+        first.refer(2, 0, 0, 'a');
+        first.link(0);
+        Check.due("11: asked for by the first of all references", "lll", () -> fates(first, 3));
         LinkerYard low = twins(8, 4, 7, true);
         low.refer(0, 2, 1, 'a');
         Check.due("11: the address of the lower one is asked for", "-lllx", () -> twinFates(low));

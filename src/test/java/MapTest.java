@@ -229,6 +229,10 @@ public final class MapTest {
         Check.due("18: five islands", 5, yard::islands);
         Check.due("20: the data end with the last island", 1036, yard::dataEnd);
         Check.due("37: that is sound", true, yard::isSound);
+        yard.setRooms(999, 36);
+        Check.due("9: the last island is within the room for data", '-', () -> yard.link(0));
+        yard.setRooms(999, 35);
+        Check.due("9: the last island is too much for data", 'r', () -> yard.link(0));
     }
 
     private static void islandsInRooms() {

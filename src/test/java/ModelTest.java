@@ -13,6 +13,7 @@ public final class ModelTest {
     private final int contents;
     private final int sizes;
     private final boolean isCalm;
+    private final boolean isPrepared;
     private int calls;
     private int objects;
     private int sections;
@@ -25,6 +26,7 @@ public final class ModelTest {
         this.seen = seen;
         state = seed * 7919 + 17;
         isCalm = draw(4) > 0;
+        isPrepared = isCalm && draw(3) > 0;
         names = isCalm ? 3 + draw(5) : 3 + draw(14);
         contents = 1 + draw(4);
         sizes = 1 + draw(3);
@@ -35,6 +37,7 @@ public final class ModelTest {
         TreeMap<String, Integer> seen = new TreeMap<>();
         for (int run = 0; run < runs; run++) {
             ModelTest test = new ModelTest(run, seen);
+            test.prepare("run " + run + ", at first");
             while (test.calls < CALLS) {
                 test.callOnce("run " + run + ", call " + test.calls);
             }
@@ -75,6 +78,23 @@ public final class ModelTest {
         return isCalm ? number(most) : number(most + 1);
     }
 
+    /** Gives each name a definition, in a plain object or in a member, so that more links do not fail. */
+    private void prepare(String where) {
+        if (!isPrepared) {
+            return;
+        }
+        for (int object = 0; object < 4; object++) {
+            boolean isMember = object > 0;
+            compare(where, "addObject(" + isMember + ")", () -> yard.addObject(isMember),
+                    () -> objects(model.addObject(isMember)));
+            section(where, object, object != 2, 16, false);
+        }
+        for (int name = 0; name < 16; name++) {
+            int section = name >= names || chance(60) ? 0 : 1 + draw(3);
+            define(where, section, name, draw(16), section == 0 && chance(80) ? 'w' : 's');
+        }
+    }
+
     private void callOnce(String where) {
         int kind = draw(100);
         if (kind < 22 || kind < 80 && calls < 100) {
@@ -113,6 +133,10 @@ public final class ModelTest {
     }
 
     private void noteMap() {
+        for (int object = 4; object < objects; object++) {
+            seen.merge(model.isTaken(object) ? "taken" : "not taken", 1, Integer::sum);
+        }
+        seen.merge(model.steps() == 100 ? "100 steps" : model.steps() > 1 ? "more steps" : "few steps", 1, Integer::sum);
         for (int section = 0; section < sections; section++) {
             seen.merge(model.fate(section) == 'f' ? "folded" : "not folded", 1, Integer::sum);
         }
@@ -126,7 +150,9 @@ public final class ModelTest {
 
     private void tell(String where) {
         int kind = draw(100);
-        if (kind < 12) {
+        if (isCalm && chance(25)) {
+            twin(where);
+        } else if (kind < 12) {
             boolean isMember = chance(50);
             compare(where, "addObject(" + isMember + ")", () -> yard.addObject(isMember),
                     () -> objects(model.addObject(isMember)));
@@ -136,10 +162,8 @@ public final class ModelTest {
             int section = known(sections);
             int name = number(chance(90) ? names : 16);
             int offset = number(chance(90) ? 3 * sizes : 64);
-            char strength = letter(isCalm ? "wwwwwwwsll" : "sswl");
-            compare(where, "define(" + section + ", " + name + ", " + offset + ", " + strength + ")",
-                    () -> yard.define(section, name, offset, strength),
-                    () -> model.define(section, name, offset, strength));
+            String strengths = isPrepared ? "wwwwwwwwwwwwwwwwwslll" : isCalm ? "wwwwwwwsll" : "sswl";
+            define(where, section, name, offset, letter(strengths));
         } else if (kind < 72) {
             int object = known(objects);
             int name = number(names);
@@ -159,6 +183,12 @@ public final class ModelTest {
         }
     }
 
+    private void define(String where, int section, int name, int offset, char strength) {
+        compare(where, "define(" + section + ", " + name + ", " + offset + ", " + strength + ")",
+                () -> yard.define(section, name, offset, strength),
+                () -> model.define(section, name, offset, strength));
+    }
+
     private int objects(int number) {
         objects = number + 1;
         return number;
@@ -168,9 +198,12 @@ public final class ModelTest {
         int object = known(objects);
         boolean isCode = chance(70);
         int size = chance(70) ? 10 * sizes + draw(2) : number(65);
+        section(where, object, isCode, size, chance(25));
+    }
+
+    private void section(String where, int object, boolean isCode, int size, boolean isKept) {
         int alignment = chance(3) ? number(17) : 1 << (chance(60) ? 2 : draw(5));
         int content = chance(90) ? draw(contents) : number(1000);
-        boolean isKept = chance(25);
         compare(where, "addSection(" + object + ", " + isCode + ", " + size + ", " + alignment + ", " + content + ", "
                 + isKept + ")", () -> yard.addSection(object, isCode, size, alignment, content, isKept), () -> {
                     int section = model.addSection(object, isCode, size, alignment, content, isKept);
@@ -180,11 +213,38 @@ public final class ModelTest {
                 });
     }
 
+    /** Two sections of one shape in one object, kept or called, whose references differ in one at most. */
+    private void twin(String where) {
+        int object = number(objects);
+        int size = 8 + draw(2);
+        int odd = draw(14);
+        int[] goals = {draw(names), draw(names), draw(names), draw(names)};
+        int all = draw(5);
+        int shift = draw(2);
+        for (int one = 0; one < 2; one++) {
+            int before = sections;
+            section(where, object, true, size, chance(70));
+            if (sections == before) {
+                return;
+            }
+            for (int place = 0; place < all; place++) {
+                int told = one == 0 ? place : (place + shift) % all;
+                boolean isOdd = one == 1 && told == odd;
+                boolean isElse = isOdd && chance(50);
+                refer(where, before, 2 * told + (isOdd && !isElse ? 1 : 0), isElse ? draw(names) : goals[told],
+                        chance(10) ? 'a' : 'c');
+            }
+        }
+    }
+
     private void reference(String where) {
         int section = known(sections);
         int offset = number(chance(90) ? 3 * sizes : 64);
         int name = number(chance(90) ? names : 16);
-        char kind = letter("ccca");
+        refer(where, section, offset, name, letter("ccca"));
+    }
+
+    private void refer(String where, int section, int offset, int name, char kind) {
         compare(where, "refer(" + section + ", " + offset + ", " + name + ", " + kind + ")",
                 () -> yard.refer(section, offset, name, kind), () -> {
                     int reference = model.refer(section, offset, name, kind);
