@@ -267,6 +267,18 @@ public final class LibraryTest {
         Check.due("33: all are gone", 0, yard::bindings);
         yard.load(2);
         Check.dueUnsupported("32: the bindings are gone", () -> yard.bind(2, 7, 1));
+        for (int name : new int[] {0, 15}) {
+            for (int binder : new int[] {0, 7}) {
+                LinkerYard ends = libraries(8);
+                ends.provide(3, name, 9);
+                ends.load(binder);
+                ends.load(3);
+                ends.bind(binder, name, 9);
+                Check.dueUnsupported("29: " + binder + " has a binding of name " + name, () -> ends.unload(3));
+                ends.unload(binder);
+                Check.due("29: " + binder + " has left", 1, () -> ends.unload(3));
+            }
+        }
         LinkerYard both = libraries(3, "01", "10");
         both.provide(1, 7, 2);
         both.provide(2, 7, 1);
