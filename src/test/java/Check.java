@@ -1,14 +1,22 @@
 /** Compares answers with those that are due, and counts the ones that are not. */
 final class Check {
-    /** A call whose answer is compared; booleans count 1 or 0. */
+    /** A call whose answer is compared. */
     interface Call {
         Object answer();
     }
 
     private static int wrong = 0;
     private static int asked = 0;
+    private static int sentences = 0;
+    private static String sentence = "";
 
     private Check() {
+    }
+
+    /** Names the sentence of the document that the answers behind this are about. */
+    static void sentence(String words) {
+        sentences++;
+        sentence = words + " | ";
     }
 
     /** The answer of a call, or the name of what it throws. */
@@ -25,7 +33,7 @@ final class Check {
         String got = told(call);
         if (!got.equals(String.valueOf(want))) {
             wrong++;
-            System.out.println(what + " answered " + got + ", due is " + want);
+            System.out.println(sentence + what + " answered " + got + ", due is " + want);
         }
     }
 
@@ -55,7 +63,8 @@ final class Check {
 
     /** Says how it went, and ends with exit code 1 if an answer was not as due. */
     static void end() {
-        System.out.println(asked + " answers asked, " + wrong + " not as due");
+        String about = sentences == 0 ? "" : " about " + sentences + " sentences";
+        System.out.println(asked + " answers asked" + about + ", " + wrong + " not as due");
         if (wrong != 0) {
             System.exit(1);
         }
