@@ -597,6 +597,28 @@ public final class LibraryEdgeTest {
         }
         Check.due("one that is there", 5, () -> yard.bind(7, 15, 9));
         Check.due("is none more", made, yard::bindings);
+        LinkerYard many = Build.libraries(8);
+        for (int name = 0; name < 16; name++) {
+            many.provide(name % 8, name, 9);
+            many.provide((name + 3) % 8, name, 1);
+        }
+        for (int library = 7; library >= 0; library--) {
+            many.load(library);
+        }
+        for (int round = 0; round < 2; round++) {
+            for (int library = 0; library < 8; library++) {
+                for (int name = 0; name < 16; name++) {
+                    int binder = library;
+                    int bound = name;
+                    int lasting = Math.max(name % 8, (name + 3) % 8);
+                    int due = (library + name) % 2 == 0 ? name % 8 : lasting;
+                    int version = (library + name) % 2 == 0 ? 9 : 1;
+                    Check.due("library " + library + ", name " + name + ", version " + version, due,
+                            () -> many.bind(binder, bound, version));
+                }
+            }
+            Check.due("bindings of all libraries and names", 128, many::bindings);
+        }
     }
 
     private static void refusedUnload() {

@@ -166,6 +166,9 @@ public final class LivingEdgeTest {
             dueFates("the root stands for it", yard, name, "xx");
             Check.due("one common lives", 1001, yard::dataEnd);
             Check.dueNoElement("the other one does not", () -> yard.addressOf(15 - name));
+            dueFates("the root does not stand for it any more", yard, 7, "lx");
+            Check.due("no common lives any more", 1000, yard::dataEnd);
+            Check.dueNoElement("it does not live", () -> yard.addressOf(name));
             yard.refer(0, 0, name, 'c');
             dueFates("a reference goes to it", yard, 7, "lx");
             Check.due("the same common lives", 1001, yard::dataEnd);

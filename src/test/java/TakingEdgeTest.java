@@ -18,6 +18,7 @@ public final class TakingEdgeTest {
         closedByLocal();
         wanted();
         lowestMember();
+        firstAndLastTold();
         asLongAs();
         takenAnew();
         localFirst();
@@ -228,6 +229,68 @@ public final class TakingEdgeTest {
         }
     }
 
+    /** The first or the last of all that are told counts as any other does. */
+    private static void firstAndLastTold() {
+        Check.sentence("a strong or a weak definition of it or a common for it: the first and the last told");
+        for (int place : new int[] {0, 39}) {
+            for (char strength : new char[] {'s', 'w', 'l'}) {
+                LinkerYard closed = Build.objects("pm");
+                fill(closed, place, 0, 3, strength);
+                closed.addCommon(1, 3, 1);
+                closed.addCommon(0, 7, 1);
+                closed.refer(0, 0, 3, 'c');
+                dueTaken("definition " + place + " closes it by " + strength, closed, 7, "t.");
+                LinkerYard open = Build.objects("pm");
+                fill(open, place, 1, 3, strength);
+                open.addCommon(0, 7, 1);
+                open.refer(0, 0, 3, 'c');
+                dueTaken("definition " + place + " by " + strength, open, 7, strength == 's' ? "tt" : "t.");
+            }
+        }
+        for (int place : new int[] {0, 159}) {
+            LinkerYard closed = Build.objects("pppppppppm");
+            Build.code(closed, 0, 1, 0);
+            closed.refer(0, 0, 3, 'a');
+            closed.define(Build.code(closed, 9, 1, 0), 3, 0, 's');
+            fillCommons(closed, place, 8, 3);
+            dueTaken("common " + place + " closes it", closed, 7, "ttttttttt.");
+            LinkerYard wanted = Build.objects("pppppppppm");
+            Build.code(wanted, 0, 1, 0);
+            wanted.refer(0, 0, 3, 'a');
+            fillCommons(wanted, place, 9, 3);
+            dueTaken("common " + place + " is wanted", wanted, 7, "tttttttttt");
+        }
+    }
+
+    /** Sections 0 to 2 of object 0, 3 to 5 of object 1, with 40 definitions; the one at a place is given. */
+    private static void fill(LinkerYard yard, int place, int object, int name, char strength) {
+        for (int section = 0; section < 6; section++) {
+            Build.code(yard, section / 3, 1, section);
+        }
+        for (int number = 0; number < 40; number++) {
+            if (number == place) {
+                yard.define(3 * object + 2, name, 0, strength);
+            } else {
+                yard.define(number / 8, 8 + number % 8, 0, 'l');
+            }
+        }
+    }
+
+    /** As many commons as there may be but those for the name, of which there is one, told at a place. */
+    private static void fillCommons(LinkerYard yard, int place, int object, int name) {
+        if (place == 0) {
+            yard.addCommon(object, name, 1);
+        }
+        for (int number = 0; number < 160; number++) {
+            if (number % 16 != name) {
+                yard.addCommon(number / 16, number % 16, 1);
+            }
+        }
+        if (place > 0) {
+            yard.addCommon(object, name, 1);
+        }
+    }
+
     /** Object 0 needs the first of a row of members, each of which needs the next. */
     private static LinkerYard chain(int... members) {
         LinkerYard yard = Build.objects("pmmmmmmmmm");
@@ -248,6 +311,15 @@ public final class TakingEdgeTest {
         dueTaken("all by falling numbers", chain(9, 8, 7, 6, 5, 4, 3, 2, 1), 0, "tttttttttt");
         dueTaken("some of them", chain(9, 1, 5, 4), 0, "tt..tt...t");
         dueTaken("none of them", chain(), 0, "t.........");
+        LinkerYard members = Build.objects("mmmmmmmmmm");
+        for (int object = 9; object >= 0; object--) {
+            members.define(Build.code(members, object, 1, object), object, 0, 's');
+            if (object > 0) {
+                members.refer(9 - object, 0, object - 1, 'c');
+            }
+        }
+        dueTaken("ten members by falling numbers, and no plain one", members, 9, "tttttttttt");
+        dueTaken("one of the ten", members, 0, "t.........");
         LinkerYard again = chain(5);
         again.addCommon(2, 1, 4);
         again.refer(1, 1, 1, 'a');
@@ -359,19 +431,20 @@ public final class TakingEdgeTest {
     private static void greatestCommon() {
         Check.sentence("or else the greatest common for it in one that is taken");
         int[][] sizes = {{1, 2, 3}, {3, 2, 1}, {2, 3, 1}, {64, 63, 62}, {62, 63, 64}, {7, 7, 6}, {6, 7, 7}, {7, 7, 7}};
+        int[][] orders = {{0, 1, 2}, {2, 1, 0}, {1, 2, 0}};
         for (int[] row : sizes) {
-            LinkerYard yard = Build.objects("pppm");
-            int greatest = 0;
-            for (int object = 0; object < 3; object++) {
-                yard.addCommon(object, 3, row[object]);
-                greatest = Math.max(greatest, row[object]);
+            for (int[] order : orders) {
+                LinkerYard yard = Build.objects("pppm");
+                yard.addCommon(3, 3, 64);
+                for (int object : order) {
+                    yard.addCommon(object, 3, row[object]);
+                }
+                int greatest = Math.max(row[0], Math.max(row[1], row[2]));
+                yard.define(Build.data(yard, 0, 1), 3, 0, 'w');
+                Check.due("link, greatest is " + greatest, '-', () -> yard.link(3));
+                Check.due("where it ends", 1000 + greatest, yard::dataEnd);
+                Check.due("where it begins", 1000, () -> yard.addressOf(3));
             }
-            yard.addCommon(3, 3, 64);
-            yard.define(Build.data(yard, 0, 1), 3, 0, 'w');
-            int end = 1000 + greatest;
-            Check.due("link, greatest is " + greatest, '-', () -> yard.link(3));
-            Check.due("where it ends", end, yard::dataEnd);
-            Check.due("where it begins", 1000, () -> yard.addressOf(3));
         }
     }
 
