@@ -226,6 +226,16 @@ public final class LibraryEdgeTest {
         Check.due("the other one stands", 0, () -> yard.load(1));
         Check.due("the third one does not", 1, () -> yard.load(2));
         dueState("each once", yard, "102", "2 2 1");
+        LinkerYard alone = Build.libraries(2, "01");
+        alone.load(0);
+        Check.due("what it needs leaves", 1, () -> alone.unload(1));
+        Check.due("it stands, so nothing is put", 0, () -> alone.load(0));
+        dueState("what it needs is not put again", alone, "0", "2 0");
+        Check.due("unless it is loaded itself", 1, () -> alone.load(1));
+        dueState("that was loaded once", alone, "01", "2 1");
+        alone.unload(0);
+        Check.due("then it leaves with the one that needs it", 2, () -> alone.unload(0));
+        dueState("none stays", alone, "", "0 0");
     }
 
     private static void putByRisingNumbers() {
