@@ -1,10 +1,7 @@
-import java.io.ByteArrayOutputStream;
+import java.io.File;
 import java.io.IOException;
-import java.io.PrintStream;
 import java.lang.reflect.Method;
 import java.lang.reflect.Modifier;
-import java.net.URL;
-import java.net.URLClassLoader;
 import java.nio.file.Files;
 import java.nio.file.Path;
 import java.util.ArrayList;
@@ -13,7 +10,6 @@ import java.util.Set;
 import java.util.TreeSet;
 import java.util.regex.Matcher;
 import java.util.regex.Pattern;
-import javax.tools.ToolProvider;
 
 /** What README.md says: its example's answers, and what it tells of each call. */
 public final class ReadmeTest {
@@ -52,24 +48,24 @@ public final class ReadmeTest {
         }
     }
 
-    /** Compiles and runs the example, and tells what it printed. */
+    /** Compiles and runs the example as the page tells it, and answers what it printed. */
     private static List<String> printed(String source) throws Exception {
         Path place = Files.createTempDirectory("example");
         Path file = place.resolve("Example.java");
         Files.writeString(file, source);
-        int failed = ToolProvider.getSystemJavaCompiler().run(null, null, null,
-                "-cp", System.getProperty("java.class.path"), "-d", place.toString(), file.toString());
-        Check.due("compiling the example", 0, () -> failed);
-        ByteArrayOutputStream bytes = new ByteArrayOutputStream();
-        PrintStream before = System.out;
-        System.setOut(new PrintStream(bytes, true));
-        try (URLClassLoader loader = new URLClassLoader(new URL[] {place.toUri().toURL()})) {
-            loader.loadClass("Example").getMethod("main", String[].class).invoke(null, (Object) new String[0]);
-        } finally {
-            System.setOut(before);
-            remove(place);
-        }
-        return bytes.toString().lines().toList();
+        String classes = System.getProperty("java.class.path");
+        outcome("javac", "-cp", classes, "-d", place.toString(), file.toString());
+        List<String> printed = outcome("java", "-cp", classes + File.pathSeparator + place, "Example");
+        remove(place);
+        return printed;
+    }
+
+    private static List<String> outcome(String... command) throws Exception {
+        Process process = new ProcessBuilder(command).redirectError(ProcessBuilder.Redirect.INHERIT).start();
+        List<String> lines = new String(process.getInputStream().readAllBytes()).lines().toList();
+        int code = process.waitFor();
+        Check.due("exit code of " + command[0], 0, () -> code);
+        return lines;
     }
 
     private static void remove(Path place) throws IOException {
